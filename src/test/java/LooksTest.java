@@ -79,6 +79,9 @@ public final class LooksTest {
         Due.is("habit of all", x.habit(0, NONE, 0), 4);
         Due.is("habit of all, lower", x.habit(0, NONE, 1), 3);
         Due.is("habit at 2 again", x.habit(0, 2, 0), 7);
+        Due.is("habit at 0 again", x.habit(0, 0, 0), 0);
+        Due.is("doubles after that", x.count(4), 3);
+        Due.is("doubles again", x.count(4), 3);
         Due.is("habit of the third", x.habit(2, NONE, 0), -1);
         Due.is("habit of the third, lower", x.habit(2, NONE, 1), 4);
         Due.is("habit without", x.habit(3, NONE, 0), 0);

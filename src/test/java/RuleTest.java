@@ -12,6 +12,8 @@ public final class RuleTest {
         seventhClause();
         fourthTest();
         faultLeavesAll();
+        earlierText();
+        fullText();
         judgedByNames();
         judgedInOrder();
         judgedByState();
@@ -91,6 +93,13 @@ public final class RuleTest {
         faulty("x", 1, 0);
         faulty("  los>1=mend;", 1, 2);
         faulty("losta>1=mend;", 1, 0);
+        faulty("lostz>1=mend;", 1, 0);
+        faulty("lost`>1=mend;", 1, 4);
+        faulty("lost{>1=mend;", 1, 4);
+        faulty("lost>/=mend;", 1, 5);
+        faulty("lost>:=mend;", 1, 5);
+        faulty("host>1=mend;", 1, 0);
+        faulty("lost>1=send;", 1, 7);
         faulty("lo st>1=mend;", 1, 0);
         faulty("Lost>1=mend;", 1, 0);
         faulty("losT>1=mend;", 1, 0);
@@ -181,6 +190,42 @@ public final class RuleTest {
         Due.is("the next rule", x.judged(0, 10), 0);
     }
 
+    /** What an earlier, longer text has left tells nothing of a shorter one. */
+    private static void earlierText() {
+        String[] shorter = {"los", "lost", "lost>", "lost>1", "lost>12=", "lost>12=men", "lost>12=mend"};
+        int[] where = {0, 4, 5, 6, 8, 8, 12};
+        for (int i = 0; i < shorter.length; i++) {
+            StoneKeep x = new StoneKeep();
+            feed(x, "lost>12=mend;lost>12=mend;");
+            Due.is("the longer text", x.read(), 2);
+            feed(x, shorter[i]);
+            Due.is("the shorter text " + shorter[i], x.read(), -11);
+            Due.is("the shorter text " + shorter[i] + ": where", x.fault(), where[i]);
+        }
+        StoneKeep y = new StoneKeep();
+        y.block(0, 0, 100);
+        feed(y, "age>1&age>2&age>900=mend;age>0=mend;");
+        y.read();
+        feed(y, "age>5=change;");
+        y.read();
+        feed(y, "age>1=change;");
+        Due.is("one clause of one test", y.read(), 1);
+        Due.is("the earlier tests are gone", y.judged(0, 2), 2);
+        Due.is("the earlier clauses are gone", y.judged(0, 1), 0);
+    }
+
+    /** Texts of 120 bytes that end within a word, a NUMBER or a clause. */
+    private static void fullText() {
+        String[] ends = {"lost", "lost<", "lost<1", "lost<1&", "lost<1=", "lost<1=mend", "los"};
+        for (String end : ends) {
+            boolean word = end.equals("los");
+            faulty(" ".repeat(120 - end.length()) + end, 1, word ? 117 : 120);
+        }
+        faulty(" ".repeat(116) + "1234", 1, 116);
+        faulty(" ".repeat(111) + "lost<1234", 2, 116);
+        sound(" ".repeat(108) + "lost<1=mend;".substring(0, 12), 1);
+    }
+
     /** Each name and the least and greatest number by which it is met, on one block. */
     private static void judgedByNames() {
         String[] names = {"lost", "wet", "side", "stone", "age", "harm", "state"};
@@ -225,6 +270,12 @@ public final class RuleTest {
         feed(x, "age>50=leave;lost<999=mend;");
         x.read();
         Due.is("a first that says leave", x.judged(0, 100), 0);
+        StoneKeep y = new StoneKeep();
+        y.block(0, 0, 1);
+        feed(y, "lost>299&lost<301=change;");
+        y.read();
+        Due.is("lost of the least deep", y.judged(0, 3), 2);
+        Due.is("lost of it a year on", y.judged(0, 4), 0);
     }
 
     private static void judgedByState() {
