@@ -15,6 +15,7 @@ public final class BlocksTest {
         danger();
         count();
         worst();
+        worstOfThirty();
         Due.end();
     }
 
@@ -264,5 +265,16 @@ public final class BlocksTest {
         Due.is("worst: year -1", x.worst(-1, 0), OUTSIDE);
         Due.is("worst: year 401", x.worst(401, -1), OUTSIDE);
         Due.is("worst is no refusal", x.take(0) == NOT ? 1 : 0, 0);
+    }
+
+    private static void worstOfThirty() {
+        StoneKeep x = new StoneKeep();
+        for (int b = 0; b < 30; b++) {
+            x.block(0, 30 - b, 100);
+        }
+        for (int i = 0; i < 30; i++) {
+            Due.is("worst of thirty, " + i, x.worst(0, i), 29 - i);
+        }
+        Due.is("worst of thirty, 30", x.worst(0, 30), NONE);
     }
 }
