@@ -284,7 +284,7 @@ public final class StoneKeep {
         private int size;
 
         int add(int b, int year, int value) {
-            if (size >= MOST_RULINGS) {
+            if (!isBelow(size, MOST_RULINGS)) {
                 return FULL;
             }
             blocks[size] = b;
@@ -298,7 +298,7 @@ public final class StoneKeep {
         void spread(int b, int[] into) {
             Arrays.fill(into, 0);
             Arrays.fill(since, NONE);
-            for (int i = 0; i < size; i++) {
+            for (int i = 0; i < size && i < MOST_RULINGS; i++) {
                 if (blocks[i] == b) {
                     spreadFrom(years[i], values[i], into);
                 }
@@ -333,7 +333,7 @@ public final class StoneKeep {
         }
 
         int addBlock(int stone, int year, int deep) {
-            if (size >= MOST_BLOCKS) {
+            if (!isBelow(size, MOST_BLOCKS)) {
                 return FULL;
             }
             stones[size] = stone;
@@ -388,12 +388,12 @@ public final class StoneKeep {
         }
 
         int findWorst(Course course, int year, int i) {
-            for (int b = 0; b < size; b++) {
+            for (int b = 0; b < size && b < MOST_BLOCKS; b++) {
                 course.follow(this, b);
                 dangers[b] = course.danger;
                 losses[b] = course.lostAt(year);
             }
-            for (int b = 0; b < size; b++) {
+            for (int b = 0; b < size && b < MOST_BLOCKS; b++) {
                 if (dangers[b] != NONE && countWorseThan(b) == i) {
                     return b;
                 }
@@ -403,7 +403,7 @@ public final class StoneKeep {
 
         private int countWorseThan(int b) {
             int worse = 0;
-            for (int other = 0; other < size; other++) {
+            for (int other = 0; other < size && other < MOST_BLOCKS; other++) {
                 if (dangers[other] != NONE && isWorse(other, b)) {
                     worse++;
                 }
@@ -482,7 +482,7 @@ public final class StoneKeep {
         private int learned;
 
         int add(int b, int hand, int year, int grade) {
-            if (size >= MOST_LOOKS) {
+            if (!isBelow(size, MOST_LOOKS)) {
                 return FULL;
             }
             blocks[size] = b;
@@ -521,7 +521,7 @@ public final class StoneKeep {
             Arrays.fill(seen, 0);
             int grade = 0;
             int found = 0;
-            for (int i = 0; i < known && i < size; i++) {
+            for (int i = 0; i < known && i < MOST_LOOKS; i++) {
                 if (blocks[i] == b && years[i] == latest) {
                     grade += grades[i];
                     found++;
@@ -541,7 +541,7 @@ public final class StoneKeep {
 
         private int findLatest(int b, int year, int known) {
             int latest = NONE;
-            for (int i = 0; i < known && i < size; i++) {
+            for (int i = 0; i < known && i < MOST_LOOKS; i++) {
                 if (blocks[i] == b && years[i] <= year && years[i] > latest) {
                     latest = years[i];
                 }
@@ -558,7 +558,7 @@ public final class StoneKeep {
             Arrays.fill(sums, 0);
             Arrays.fill(pairs, 0);
             doubles = 0;
-            for (int j = 0; j < known && j < size; j++) {
+            for (int j = 0; j < known && j < MOST_LOOKS; j++) {
                 for (int i = 0; i < j; i++) {
                     if (areDouble(i, j)) {
                         doubles++;
@@ -659,7 +659,7 @@ public final class StoneKeep {
         }
 
         int decide(int[] facts, boolean hasState) {
-            for (int c = 0; c < clauses; c++) {
+            for (int c = 0; c < clauses && c < MOST_CLAUSES; c++) {
                 if (isMet(c, facts, hasState)) {
                     return acts[c];
                 }
@@ -788,7 +788,7 @@ public final class StoneKeep {
             skipBlanks();
             int start = next;
             int number = 0;
-            for (int i = start; i < size && text[i] >= '0' && text[i] <= '9'; i++) {
+            for (int i = start; i < size && i < MOST_BYTES && text[i] >= '0' && text[i] <= '9'; i++) {
                 number = number * 10 + text[i] - '0';
                 next = i + 1;
             }
@@ -814,14 +814,14 @@ public final class StoneKeep {
         }
 
         private void skipBlanks() {
-            for (int i = next; i < size && text[i] == ' '; i++) {
+            for (int i = next; i < size && i < MOST_BYTES && text[i] == ' '; i++) {
                 next = i + 1;
             }
         }
 
         private int findWordEnd() {
             int end = next;
-            for (int i = next; i < size && text[i] >= 'a' && text[i] <= 'z'; i++) {
+            for (int i = next; i < size && i < MOST_BYTES && text[i] >= 'a' && text[i] <= 'z'; i++) {
                 end = i + 1;
             }
             return end;
@@ -907,7 +907,7 @@ public final class StoneKeep {
         }
 
         int yearOf(int b) {
-            for (int i = 0; i < size; i++) {
+            for (int i = 0; i < size && i < MOST_WORKS; i++) {
                 if (blocks[i] == b && best[i] != NONE) {
                     return start + best[i];
                 }
@@ -975,7 +975,7 @@ public final class StoneKeep {
         private int size;
 
         int add(int stone, int strength, int pore, int colour, int piece) {
-            if (size >= MOST_LOTS) {
+            if (!isBelow(size, MOST_LOTS)) {
                 return FULL;
             }
             stones[size] = stone;
@@ -989,7 +989,7 @@ public final class StoneKeep {
 
         int countPieces() {
             int all = 0;
-            for (int i = 0; i < size; i++) {
+            for (int i = 0; i < size && i < MOST_LOTS; i++) {
                 all += pieces[i];
             }
             return all;
@@ -998,7 +998,7 @@ public final class StoneKeep {
         int findMatch(int stone, int strength, int pore, int colour, int span) {
             int found = NONE;
             int least = BEYOND;
-            for (int i = 0; i < size; i++) {
+            for (int i = 0; i < size && i < MOST_LOTS; i++) {
                 int strengthOff = Math.abs(strengths[i] - strength);
                 int poresOff = Math.abs(pores[i] - pore);
                 int colourOff = Math.abs(colours[i] - colour);
