@@ -54,6 +54,14 @@ public final class EdgesOfRuleTest {
         return x;
     }
 
+    private static StoneKeep ruledAt0(String text) {
+        StoneKeep x = new StoneKeep();
+        x.block(0, 0, 3);
+        Calls.feed(x, text);
+        Due.is("read of " + text, x.read(), 1);
+        return x;
+    }
+
     private static void lowestBytes() {
         Sentence.quote("The n lowest bytes (n 1 .. 8) of a long");
         String text = "age<401=mend;   ";
@@ -453,15 +461,40 @@ public final class EdgesOfRuleTest {
         StoneKeep y = ruled("age<1=change;age>0=mend;");
         Due.is("when it was laid", y.judged(0, 10), 2);
         Due.is("a year on", y.judged(0, 11), 1);
+        Due.is("the year before it was laid", y.judged(0, 9), 2);
+        Due.is("the first YEAR", y.judged(0, 0), 2);
+        Due.is("the last YEAR", y.judged(0, 400), 1);
+        Due.is("the greatest age", ruledAt0("age>399&age<401=change;").judged(0, 400), 2);
         Due.is("cut: 33 of 100", ruled("lost>32&lost<34=mend;").judged(0, 11), 1);
         Due.is("cut: 66 of 100", ruled("lost>65&lost<67=mend;").judged(0, 12), 1);
         Due.is("all of it", ruled("lost>99&lost<101=mend;").judged(0, 13), 1);
+        placedAt(3, 3);
+        placedAt(0, 0);
+        placedAt(2, 1);
         StoneKeep z = ruled("harm>0=change;harm<1=mend;");
         z.mortar(0, 20, true);
         z.mortar(0, 30, false);
         int[][] harm = {{19, 1}, {20, 2}, {29, 2}, {30, 1}};
         for (int[] h : harm) {
             Due.is("harm at " + h[0], z.judged(0, h[0]), h[1]);
+        }
+    }
+
+    /** Names of what has bounds of its own: met by just that, neither by one less nor by one more. */
+    private static void placedAt(int wet, int side) {
+        int stone = 3 - wet;
+        int[] values = {wet, side, stone};
+        String[] names = {"wet", "side", "stone"};
+        for (int i = 0; i < names.length; i++) {
+            StoneKeep x = new StoneKeep();
+            x.block(stone, 0, 3);
+            x.place(0, 20, side, wet, 7);
+            String name = names[i];
+            Calls.feed(x, name + ">" + values[i] + "=mend;" + name + "<" + values[i] + "=mend;"
+                + name + "<" + (values[i] + 1) + "=change;");
+            Due.is("read", x.read(), 3);
+            Due.is(name + " of " + values[i], x.judged(0, 20), 2);
+            Due.is(name + " of " + values[i] + " a year before", x.judged(0, 19), i == 2 || values[i] == 0 ? 2 : 1);
         }
     }
 
