@@ -182,7 +182,7 @@ public final class StoneKeep {
             return OUTSIDE;
         }
         int found = 0;
-        for (int b = 0; b < monument.size; b++) {
+        for (int b = 0; b < monument.size && b < MOST_BLOCKS; b++) {
             if (judge(b, year) == act) {
                 found++;
             }
@@ -203,7 +203,7 @@ public final class StoneKeep {
             return OUTSIDE;
         }
         plan.begin(year, n, coin);
-        for (int k = 0; k < monument.size; k++) {
+        for (int k = 0; k < monument.size && k < MOST_BLOCKS; k++) {
             if (hasBit(set, k)) {
                 course.follow(monument, k);
                 plan.addBlock(k, course);
@@ -642,17 +642,18 @@ public final class StoneKeep {
 
         /** A test of the clause that is not ended yet. */
         void addTest(int name, int sign, int number) {
-            if (clauses < MOST_CLAUSES && tests[clauses] < MOST_TESTS) {
-                int i = clauses * MOST_TESTS + tests[clauses];
+            int t = at(tests, clauses);
+            if (isBelow(clauses, MOST_CLAUSES) && isBelow(t, MOST_TESTS)) {
+                int i = clauses * MOST_TESTS + t;
                 names[i] = name;
                 signs[i] = sign;
                 numbers[i] = number;
-                tests[clauses]++;
+                tests[clauses] = t + 1;
             }
         }
 
         void endClause(int act) {
-            if (clauses < MOST_CLAUSES) {
+            if (isBelow(clauses, MOST_CLAUSES)) {
                 acts[clauses] = act;
                 clauses++;
             }
@@ -668,7 +669,7 @@ public final class StoneKeep {
         }
 
         private boolean isMet(int clause, int[] facts, boolean hasState) {
-            for (int t = 0; t < at(tests, clause); t++) {
+            for (int t = 0; t < MOST_TESTS && t < at(tests, clause); t++) {
                 int i = clause * MOST_TESTS + t;
                 int name = at(names, i);
                 if (name == STATE && !hasState) {
@@ -698,7 +699,7 @@ public final class StoneKeep {
             if (size + n > MOST_BYTES) {
                 return FULL;
             }
-            for (int i = n - 1; i >= 0 && size < MOST_BYTES; i--) {
+            for (int i = n - 1; i >= 0 && isBelow(size, MOST_BYTES); i--) {
                 text[size] = (int) ((bytes >>> (8 * i)) & 255);
                 size++;
             }
@@ -788,8 +789,8 @@ public final class StoneKeep {
             skipBlanks();
             int start = next;
             int number = 0;
-            for (int i = start; i < size && i < MOST_BYTES && text[i] >= '0' && text[i] <= '9'; i++) {
-                number = number * 10 + text[i] - '0';
+            for (int i = start; i < size && isIn('0', at(text, i), '9'); i++) {
+                number = number * 10 + at(text, i) - '0';
                 next = i + 1;
             }
             if (next == start) {
@@ -814,17 +815,21 @@ public final class StoneKeep {
         }
 
         private void skipBlanks() {
-            for (int i = next; i < size && i < MOST_BYTES && text[i] == ' '; i++) {
+            for (int i = next; i >= 0 && i < size && i < MOST_BYTES && text[i] == ' '; i++) {
                 next = i + 1;
             }
         }
 
         private int findWordEnd() {
             int end = next;
-            for (int i = next; i < size && i < MOST_BYTES && text[i] >= 'a' && text[i] <= 'z'; i++) {
+            for (int i = next; i < size && isIn('a', at(text, i), 'z'); i++) {
                 end = i + 1;
             }
             return end;
+        }
+
+        private static boolean isIn(int first, int sign, int last) {
+            return first <= sign && sign <= last;
         }
 
         private boolean isWord(String word, int start, int end) {
@@ -895,7 +900,7 @@ public final class StoneKeep {
         }
 
         void addBlock(int b, Course course) {
-            if (size < MOST_WORKS) {
+            if (isBelow(size, MOST_WORKS)) {
                 blocks[size] = b;
                 for (int t = 0; t < span && t < MOST_SPAN; t++) {
                     costs[size * MOST_SPAN + t] = WORK + course.lostAt(start + t);
@@ -925,7 +930,7 @@ public final class StoneKeep {
                 plan.keep(sum);
                 return;
             }
-            for (int t = 0; t < plan.span; t++) {
+            for (int t = 0; t < plan.span && t < MOST_SPAN; t++) {
                 int cost = plan.doWork(i, t);
                 if (at(plan.spent, t) <= plan.coin) {
                     search(plan, i + 1, sum + cost);
